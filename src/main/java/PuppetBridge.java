@@ -904,6 +904,12 @@ public final class PuppetBridge {
         static final int MOST_PASSES = 40;
         static final int MOST_UNDO = 6;
 
+        /**
+         * The farthest that 0 .. 6 PASSES spread the curve, found by trying all rows of them: a curve that is
+         * spread farther can't be made straight by so few.
+         */
+        private static final int[] FARTHEST = {5, 6, 9, 14, 22, 35, 56};
+
         final int[] passes = new int[MOST_PASSES];
         final int[] spots = new int[MOST_BARS];
         final int[] turns = new int[MOST_BARS * MOST_BARS];
@@ -975,10 +981,11 @@ public final class PuppetBridge {
         }
 
         private boolean isFreeBehind(int n, int depth) {
-            if (tangle > n - depth) {
+            int left = n - depth;
+            if (left < 0 || left > MOST_UNDO || tangle > left || spread() > FARTHEST[left]) {
                 return false;
             }
-            if (depth >= n || depth >= MOST_UNDO) {
+            if (left == 0 || depth >= MOST_UNDO) {
                 return isFree();
             }
             for (int k = 2; k < 2 * bars; k++) {
@@ -995,6 +1002,14 @@ public final class PuppetBridge {
                 }
             }
             return false;
+        }
+
+        private long spread() {
+            long sum = 0;
+            for (int k = 0; k < curve.length; k++) {
+                sum += Math.abs(curve[k]);
+            }
+            return sum;
         }
 
         private static void straighten(long[] c) {

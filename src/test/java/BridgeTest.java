@@ -276,6 +276,7 @@ public final class BridgeTest {
 
     private static void undoing(int n) {
         Map<String, int[]> ball = ball(n);
+        undoingAll(n, ball);
         for (int run = 0; run < 400; run++) {
             int[] core = randomWord(n, RANDOM.nextInt(11));
             int[] word = mess(n, core, 14 + RANDOM.nextInt(27));
@@ -292,6 +293,21 @@ public final class BridgeTest {
                 Due.is("free behind undo", x.free(), 1);
                 Due.is("undo behind undo", x.undo(), 0);
                 Due.row("undo behind undo", x);
+            }
+        }
+    }
+
+    /** Every braid of at most six passes has its first shortest row found. */
+    private static void undoingAll(int n, Map<String, int[]> ball) {
+        PuppetBridge x = new PuppetBridge();
+        for (int[] word : ball.values()) {
+            x.bars(n);
+            for (int p : contrary(word)) {
+                x.pass(p);
+            }
+            Due.is("undo", x.undo(), word.length);
+            for (int k = 0; k < word.length; k++) {
+                Due.is("undo's row(" + k + ")", x.row(k), word[k]);
             }
         }
     }
