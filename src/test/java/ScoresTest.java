@@ -12,6 +12,7 @@ public final class ScoresTest {
         walking();
         again();
         meeting();
+        manyLimbs();
         limits();
         Due.finish("ScoresTest");
     }
@@ -255,6 +256,29 @@ public final class ScoresTest {
         x.again();
         Due.is("nobody has met", x.met(0, 1), 0);
         near();
+    }
+
+    /** A FIGURE of eight LIMBS that holds by the end of the last one, foreseen and played. */
+    private static void manyLimbs() {
+        PuppetBridge x = new PuppetBridge();
+        x.figure(10, 4, 8);
+        for (int k = 1; k < 8; k++) {
+            x.limb(0, k - 1, 1, 10, k == 7 ? 8 : 4, 8);
+        }
+        x.string(0, 7, 1, 999);
+        x.figure(1, 0, 0);
+        Due.is("STANDS on the last", x.of(0, 5), 8);
+        Due.is("its x", x.at(0, 7, 1), 7000);
+        Due.score(x, 0, "a1");
+        x.place(1, 380, 920);
+        Due.is("meeting at the HIP", x.meeting(0, 1, 1), 0);
+        x.place(1, 0, 920);
+        Due.is("not where it was", x.meeting(0, 1, 1), -1);
+        x.place(1, 380, 920);
+        x.play(1);
+        Due.is("HIP", x.of(0, 2), 380);
+        Due.is("the last end holds", x.at(0, 7, 1), 7000);
+        Due.is("met", x.met(0, 1), 1);
     }
 
     private static void near() {

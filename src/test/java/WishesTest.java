@@ -12,6 +12,7 @@ public final class WishesTest {
         reachTried();
         tales();
         talesKnown();
+        allEight();
         talesTried();
         Due.finish("WishesTest");
     }
@@ -157,9 +158,12 @@ public final class WishesTest {
         Due.is("count(5)", x.count(5), 20);
         Due.is("at REST without a SCORE", x.broken(0), 1);
         x.clear();
+        x.pass(1);
+        x.undo();
+        Due.row("undo", x, -1);
         Due.is("seen", x.seen(0, 79, 0, 15), 1);
         Due.is("none does", x.broken(0), 0);
-        Due.row("the ROW stays", x, 0);
+        Due.row("the ROW stays", x, -1);
         Due.is("broken(-1)", x.broken(-1), -1);
         Due.is("broken(1)", x.broken(1), -1);
         x.figure(1, 1, 1);
@@ -199,6 +203,22 @@ public final class WishesTest {
         x.seen(0, 1, 0, 4);
         Due.is("PULLS go on behind the SCORE's end", x.broken(0), 1);
         Due.row("PULLS go on", x, 0);
+    }
+
+    private static void allEight() {
+        PuppetBridge x = new PuppetBridge();
+        x.figure(10, 5, 8);
+        for (int s = 0; s < 8; s++) {
+            x.string(0, 0, 1, 999);
+        }
+        Due.score(x, 0, "a1,b1,c1,d1,e1,f1,g1,h1");
+        x.seen(0, 0, 0, 5);
+        Due.is("all eight", x.broken(0), 1);
+        Due.row("all eight", x, 255);
+        x.clear();
+        x.seen(0, 9, 0, 9);
+        Due.is("four of eight", x.broken(0), 70);
+        Due.row("four of eight", x, 15);
     }
 
     private static void talesTried() {
