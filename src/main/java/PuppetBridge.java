@@ -1137,6 +1137,8 @@ public final class PuppetBridge {
     private static final class Reach {
         static final int MOST_CHOSEN = 3;
         static final int PULLS = TOP_PULL + 1;
+        /** Above every square of a distance. */
+        static final long BEYOND = 9000000000000000000L;
 
         final int[] chosen = new int[MOST_CHOSEN];
         final int[] best = new int[MOST_CHOSEN];
@@ -1153,7 +1155,7 @@ public final class PuppetBridge {
         }
 
         long nearest(Figure f, int limb, int x, int y, Row row) {
-            long least = Long.MAX_VALUE;
+            long least = BEYOND;
             int leastSum = 0;
             for (int code = 0; code < codes(); code++) {
                 int sum = pullBy(code, f.cords);
