@@ -193,11 +193,12 @@ public final class PuppetBridge {
     }
 
     public int score(int figure) {
-        if (!hasFigure(figure)) {
-            return NO_SUCH_FIGURE;
+        int answer = NO_SUCH_FIGURE;
+        if (hasFigure(figure)) {
+            Figure f = stage.figures[figure];
+            answer = reader.read(text, f.cords.count, f.score);
         }
-        Figure f = stage.figures[figure];
-        int answer = reader.read(text, f.cords.count, f.score);
+        // NO_SUCH_FIGURE is neither NONE nor false, so it is no refused call: THE TEXT goes whatever the answer.
         text.length = 0;
         return answer;
     }

@@ -5,6 +5,7 @@ public final class ScoresTest {
         texts();
         longTexts();
         scoreStays();
+        scoreOfNoFigure();
         playing();
         behindTheEnd();
         wearing();
@@ -46,10 +47,29 @@ public final class ScoresTest {
         Due.is("THE TEXT is empty then", x.count(7), 0);
         x.sign(0xE1313B2E);
         Due.is("a sign above 127", x.score(0), -1);
-        x.sign('.' << 24 | ';' << 16 | '.' << 8 | ';');
-        Due.is("no such figure is asked first", x.score(1), -101);
-        Due.is("no such figure is asked first", x.score(-1), -101);
-        Due.is("and nothing has changed", x.count(7), 4);
+    }
+
+    private static void scoreOfNoFigure() {
+        for (int none : new int[] {1, 3, 4, -1, Integer.MIN_VALUE, Integer.MAX_VALUE}) {
+            PuppetBridge x = withStrings(2);
+            Due.is("score", Due.score(x, 0, "a1;."), 2);
+            Due.is("no such figure, THE TEXT being empty", x.score(none), -101);
+            x.sign('a' << 24 | '2' << 16 | ';' << 8 | '.');
+            Due.is("no such figure", x.score(none), -101);
+            Due.is("THE TEXT is empty then too", x.count(7), 0);
+            x.sign('?' << 24 | '?' << 16 | '?' << 8 | '?');
+            Due.is("no such figure is asked first", x.score(none), -101);
+            Due.is("THE TEXT is empty then too", x.count(7), 0);
+            x.sign('a' << 24 | '3' << 16 | ';' << 8 | '.');
+            Due.is("nothing is left of it", x.score(0), 2);
+            Due.is("another SCORE", Due.score(x, 0, ".;.;."), 3);
+            Due.is("no such figure", Due.score(x, none, "."), -101);
+            Due.is("the SCORE of another FIGURE stays", x.of(0, 7), 3);
+        }
+        PuppetBridge y = new PuppetBridge();
+        y.sign('.' << 24 | '.' << 16 | '.' << 8 | '.');
+        Due.is("no FIGURES at all", y.score(0), -101);
+        Due.is("THE TEXT is empty then too", y.count(7), 0);
     }
 
     private static void texts() {

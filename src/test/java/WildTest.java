@@ -32,6 +32,9 @@ public final class WildTest {
                 Due.yes("only of, at, reach, row throw, not " + kind, kind == 9 || kind == 10 || kind == 30 || kind == 33);
                 refused = true;
             }
+            if (kind == 14) {
+                Due.is("THE TEXT behind score(), which answered " + answer, x.count(7), 0);
+            }
             if (refused || asksOnly(kind)) {
                 Due.yes("kind " + kind + ", refused or only asked, changes nothing", before.equals(state(x)));
             }
