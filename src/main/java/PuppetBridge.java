@@ -974,30 +974,30 @@ public final class PuppetBridge {
 
         int unwind() {
             for (int n = tangle; n <= MOST_UNDO; n += 2) {
-                if (isFreeBehind(n, 0)) {
+                if (isFreeBehind(this, n, 0)) {
                     return n;
                 }
             }
             return NONE;
         }
 
-        private boolean isFreeBehind(int n, int depth) {
+        private static boolean isFreeBehind(Bridge b, int n, int depth) {
             int left = n - depth;
-            if (left < 0 || left > MOST_UNDO || tangle > left || spread() > FARTHEST[left]) {
+            if (left < 0 || left > MOST_UNDO || b.tangle > left || b.spread() > FARTHEST[left]) {
                 return false;
             }
             if (left == 0 || depth >= MOST_UNDO) {
-                return isFree();
+                return b.isFree();
             }
-            for (int k = 2; k < 2 * bars; k++) {
+            for (int k = 2; k < 2 * b.bars; k++) {
                 int pass = k % 2 == 0 ? k / 2 : -(k / 2);
-                if (depth > 0 && trail[depth - 1] == -pass) {
+                if (depth > 0 && b.trail[depth - 1] == -pass) {
                     continue;
                 }
-                trail[depth] = pass;
-                swap(pass);
-                boolean found = isFreeBehind(n, depth + 1);
-                swap(-pass);
+                b.trail[depth] = pass;
+                b.swap(pass);
+                boolean found = isFreeBehind(b, n, depth + 1);
+                b.swap(-pass);
                 if (found) {
                     return true;
                 }

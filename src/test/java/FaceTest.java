@@ -8,6 +8,8 @@ import java.util.Arrays;
 import java.util.HashSet;
 import java.util.Set;
 import java.util.TreeSet;
+import java.util.regex.Matcher;
+import java.util.regex.Pattern;
 
 /** The face is the document's and no more, and the source keeps to what of LANGUAGE.md can be seen from outside. */
 public final class FaceTest {
@@ -99,6 +101,7 @@ public final class FaceTest {
         for (String word : banned) {
             Due.no("the source has " + word, code.contains(word));
         }
+        bodies(code);
         int imports = code.split("\nimport |^import ", -1).length - 1;
         Due.is("imports", imports, 1);
         for (int i = 0; i < code.length(); i++) {
@@ -106,6 +109,25 @@ public final class FaceTest {
                 Due.is("a sign above 126 at " + i, code.charAt(i), 0);
             }
         }
+    }
+
+    /** Rule 8: a method that calls itself is private and static; rule 11: methods stay short. */
+    private static void bodies(String code) {
+        Matcher head = Pattern.compile("\n +([\\w\\[\\] ]+) (\\w+)\\([^()]*\\)[\\w ]* \\{\n").matcher(code);
+        int methods = 0;
+        while (head.find()) {
+            int end = head.end();
+            for (int open = 1; open > 0 && end < code.length(); end++) {
+                open += code.charAt(end) == '{' ? 1 : code.charAt(end) == '}' ? -1 : 0;
+            }
+            String name = head.group(2);
+            String body = code.substring(head.end(), end);
+            boolean itself = Pattern.compile("(?<![.\\w])(this\\.)?" + name + "\\(").matcher(body).find();
+            Due.yes(name + " calls itself", !itself || head.group(1).startsWith("private static "));
+            Due.yes(name + " is short", body.split("\n").length <= 60);
+            methods++;
+        }
+        Due.yes("methods found: " + methods, methods > 100);
     }
 
     /** One room for all calls of a run: no call makes anything but what it throws. */
