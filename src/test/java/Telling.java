@@ -4,8 +4,8 @@ import java.util.regex.Matcher;
 import java.util.regex.Pattern;
 
 /**
- * A second telling of the whole document, written from its first line without a look at the class: nothing is kept
- * that can be reckoned anew, texts are read by a pattern, casts are searched through, braids are matrices.
+ * A second telling of the whole document, by other ways than the class goes: nothing is kept that can be reckoned
+ * anew, texts are read by a pattern, casts are searched through, braids are matrices.
  */
 final class Telling {
     /** The answer of a call that throws NoSuchElementException. */
